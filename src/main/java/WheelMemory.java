@@ -1653,6 +1653,7 @@ public final class WheelMemory {
         private final Land told;
         private final State[] levels;
         final int[] milesLeft = new int[MOST_PLACES];
+        private final int[] roadsLeft = new int[MOST_PLACES];
         private final int[] row = new int[MOST_WANTED];
         final int[] bestRow = new int[MOST_WANTED];
         int bestLength;
@@ -1676,19 +1677,22 @@ public final class WheelMemory {
             bestLength = 0;
             leastMiles = TOO_FAR;
             Arrays.fill(milesLeft, TOO_FAR);
+            Arrays.fill(roadsLeft, TOO_FAR);
             if (target >= 0 && target < MOST_PLACES) {
                 milesLeft[target] = 0;
+                roadsLeft[target] = 0;
             }
             for (int round = 1; round < told.places; round++) {
                 for (int road = 0; road < told.roadCount; road++) {
-                    bring(told.roadFrom[road], told.roadTo[road], told.roadMiles[road]);
-                    bring(told.roadTo[road], told.roadFrom[road], told.roadMiles[road]);
+                    spread(told.roadFrom[road], told.roadTo[road], told.roadMiles[road]);
+                    spread(told.roadTo[road], told.roadFrom[road], told.roadMiles[road]);
                 }
             }
         }
 
-        private void bring(int from, int to, int miles) {
+        private void spread(int from, int to, int miles) {
             milesLeft[to] = Math.min(milesLeft[to], milesLeft[from] + miles);
+            roadsLeft[to] = Math.min(roadsLeft[to], roadsLeft[from] + 1);
         }
 
         /** The state from which it looks, to be filled ahead of each look. */
@@ -1733,10 +1737,12 @@ public final class WheelMemory {
             }
         }
 
+        /** Goes no further where even a CART that obeys would come too late. */
         private void lookBy(int road, int depth, int miles) {
             State here = levels[depth];
             int then = miles + told.roadMiles[road];
-            if (then + milesLeft[told.otherEnd(road, here.stands[cart])] <= leastMiles) {
+            int place = told.otherEnd(road, here.stands[cart]);
+            if (then + milesLeft[place] <= leastMiles && depth + 1 + roadsLeft[place] <= MOST_WANTED) {
                 levels[depth + 1].copy(here);
                 levels[depth + 1].goBy(told, cart, road);
                 lookFrom(depth + 1, then);
