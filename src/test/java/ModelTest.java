@@ -67,7 +67,7 @@ public final class ModelTest {
                 if (dear && random.nextInt(dense ? 60 : 4) != 0) continue;
                 // new texts and images gone back to would else hide what acts do
                 if (List.of("land", "feed", "end", "back", "anew").contains(name) && random.nextInt(5) != 0) continue;
-                wrong = call(name, argumentsOf(name), answers);
+                wrong = call(name, strained(argumentsOf(name)), answers);
             }
             if (wrong != null) return wrong + "\n" + log;
         }
@@ -148,6 +148,15 @@ public final class ModelTest {
             wrong = call("drive", new long[] {cart, random.nextInt(3) == 0 ? -1 : roadOf(model.cart(cart, 0))}, null);
         }
         return wrong;
+    }
+
+    /** One time in forty a number is as small or large as can be. */
+    private long[] strained(long[] arguments) {
+        if (arguments.length > 0 && random.nextInt(40) == 0) {
+            int[] far = {Integer.MIN_VALUE, Integer.MAX_VALUE, Integer.MIN_VALUE + 1, 1000000, -1000000, 256, 65536, 32, 64};
+            arguments[random.nextInt(arguments.length)] = far[random.nextInt(far.length)];
+        }
+        return arguments;
     }
 
     private long[] argumentsOf(String name) {
