@@ -964,6 +964,21 @@ public final class EdgesTest {
                 52 smiths() = -3276
                 53 picks() = 0
                 """);
+        script.play("picks, whether or not smiths was asked ahead of it", """
+                good 5 land places 2 hand 0;road 0 to 1 miles 10;wheel rim 100 likes 0 1;wheel rim 5 likes 0 2;wheel rim 3 likes 0 4;
+                53 picks() = 0
+                swap(1, 2)
+                grease(0)
+                grease(2)
+                53 picks() = 0
+                good 4 land places 2 hand 0;road 0 to 1 miles 10;wheel rim 1 likes 0 1;wheel rim 5 likes 0 2;
+                53 picks() = 1
+                52 smiths() = 19
+                grease(1)
+                53 picks() = 0
+                good 3 land places 2 hand 0;wheel rim 1;wheel rim 5;
+                53 picks() = 1
+                """);
         script.play("only those in no CART, as they are now", """
                 good 6 land places 2 hand 0;road 0 to 1 miles 10;wheel rim 100 likes 0 1;wheel rim 5 likes 0 2;wheel rim 3 likes 0 4;cart at 0 wheels 0;
                 # 25 and 43 together with the rims: he takes 2, the other one 1
@@ -1171,7 +1186,7 @@ public final class EdgesTest {
                 row(0, 3, 1)
                 62 write(0, 0, 256) = 0 | ran(0, 0) = -2 | write(0, 0, 65536) = 0 | ran(0, 0) = -2 | write(0, 0, 4294967296) = 0 | ran(0, 0) = -2
                 62 write(0, 0, 4294967295) = 0 | ran(0, 0) = -2 | write(0, 0, LMAX) = 0 | ran(0, 0) = -2 | write(0, 0, LMIN) = 0 | ran(0, 0) = -2
-                62 write(0, 0, -4294967295) = 0 | ran(0, 0) = -2
+                62 write(0, 0, -4294967295) = 0 | ran(0, 0) = -2 | write(0, 0, -4294967296) = 0 | ran(0, 0) = -2
                 62 write(0, 0, 2) = 0 | ran(0, 0) = 20 | write(0, 0, 0) = 0 | ran(0, 0) = 1 | write(0, 0, -1) = 0 | ran(0, 0) = 1 | write(0, 0, -2) = 0 | ran(0, 0) = -2
                 """);
         script.play("a PLACE and a ROAD, cut", FULL + """
@@ -1188,6 +1203,22 @@ public final class EdgesTest {
                 write(0, 1, 4294967300)
                 62 fits(0) = -2
                 write(0, 1, LMIN)
+                62 fits(0) = -2
+                # these would be 0 if they were cut to four bytes
+                write(0, 0, 0)
+                62 fits(0) = -2
+                write(0, 1, 0)
+                62 fits(0) = 159
+                write(0, 0, LMIN)
+                62 fits(0) = -2
+                write(0, 0, -4294967296)
+                62 fits(0) = -2
+                write(0, 0, 4294967296)
+                62 fits(0) = -2
+                write(0, 0, 0)
+                write(0, 1, -4294967296)
+                62 fits(0) = -2
+                write(0, 1, 4294967296)
                 62 fits(0) = -2
                 """);
     }
