@@ -263,16 +263,16 @@ public final class EmptyAndFullTest {
     /** Of 512 calls the last is as good as the first. */
     private static void lastCalls() {
         String land = "good 4 land places 2 hand 5;road 0 to 1 miles 3;wheel rim 999;cart at 0 wheels 0;\n";
-        // 5 + 5 feeds, ends, land and faults; then 500 calls, and the last two
         script.play("512 calls", land + """
-                *240 image(0)
-                *240 takes(0, -1)
+                *245 image(0)
+                *245 takes(0, -1)
                 16 drive(0, -1) = 1 | drive(0, -1) = 0
                 19 undo() = 1
                 60 back(0) = 0 | cart(0, 0) = 0
                 16 drive(0, -1) = 1
                 59 image(2) = 0
                 60 back(2) = 0 | cart(0, 0) = 1 | undo() = 0 | cart(0, 0) = 0 | count(8) = 0
+                calls 512
                 """);
     }
 }

@@ -22,6 +22,7 @@ import java.util.regex.Pattern;
  *                                      the call with each of these in place of its first, second .. number, and
  *                                      with MIN and MAX (! alone: without; - for a number that is let alone)
  *   drive(0, 3)                        whatever it answers
+ *   calls 512                          so many calls were made up to here
  * </pre>
  * In texts of a LAND \n is byte 10, \xe9 byte 233. MIN, MAX, LMIN, LMAX are the least and greatest int and long.
  */
@@ -86,6 +87,8 @@ final class Script {
             if (mark < 0) throw new IllegalStateException("no sign ^ in " + row);
             String ahead = text(parts[2].substring(0, mark));
             read(row, ahead + text(parts[2].substring(mark + 1)), -4, Integer.parseInt(parts[1]), ahead.length());
+        } else if (row.startsWith("calls ")) {
+            if (calls != Integer.parseInt(row.substring(6))) complain("made " + calls + " calls, not as the row says: " + row);
         } else {
             calls(row);
         }
